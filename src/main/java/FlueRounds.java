@@ -573,7 +573,7 @@ public final class FlueRounds {
 
         int add(Draft text, int day) {
             int end = start[size];
-            for (int i = 0; i < text.items; i++) {
+            for (int i = 0; i < text.items && end < itemFuel.length; i++) {
                 itemFuel[end] = text.itemFuel[i];
                 itemSpan[end] = text.itemSpan[i];
                 itemFrom[end] = text.itemFrom[i];

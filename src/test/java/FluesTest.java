@@ -65,8 +65,8 @@ public final class FluesTest {
         FlueRounds f = new FlueRounds();
         int[][] bodies = {{0, 0, 7, 40, 4}, {0, 1, 7, 40, 4}, {0, 2, 7, 40, 4}, {1, 1, 7, 10, 4}, {1, 0, 7, 40, 1},
             {1, 0, 7, 40, 0}, {2, 2, 7, 13, 3}, {2, 2, 7, 13, 0}, {2, 0, 1, 40, 4}, {0, 2, 30, 10, 0},
-            {2, 2, 30, 10, 4}, {1, 0, 8, 40, 1}};
-        int[] want = {1, 5, 7, 13, 0, 1, 7, 10, 0, 120, 56, 0};
+            {2, 0, 30, 10, 4}, {0, 1, 29, 10, 1}};
+        int[] want = {1, 5, 7, 13, 0, 1, 7, 10, 0, 120, 11, 87};
         for (int i = 0; i < bodies.length; i++) {
             int[] b = bodies[i];
             f.flue(b[0], b[1], b[2], b[3], b[4], 0, 0, 0);
@@ -355,6 +355,13 @@ public final class FluesTest {
     }
 
     private static void firing() {
+        FlueRounds early = new FlueRounds();
+        Check.plain(early, 0, 0, 0, 0);
+        check.is("look on 0", early.look(0, 0, true), 0);
+        check.is("known on 0", early.known(0, 0), 1);
+        check.is("fire on 0", early.fire(0, 0), 0);
+        check.is("back(0, 1)", early.back(0, 1), 0);
+
         FlueRounds f = new FlueRounds();
         f.days(5);
         Check.plain(f, 0, 0, 0, 0);

@@ -88,6 +88,14 @@ public final class HandsTest {
         check.is("then the next", f.about(0, 7), 2);
         f.ill(2, true);
         check.is("then the last", f.about(0, 7), 3);
+
+        FlueRounds rising = new FlueRounds();
+        Check.plain(rising, 0, 10, 10, 0);
+        Check.plain(rising, 0, 11, 11, 2);
+        Check.plain(rising, 0, 9, 9, 3);
+        Check.plain(rising, 0, 10, 13, 1);
+        rising.ill(0, true);
+        check.is("a lesser HAND that is farther", rising.about(0, 7), 2);
     }
 
     private static void doersWithoutFlues() {
