@@ -1,18 +1,24 @@
 /** Counts answers that are not as due, and tells them. */
 final class Check {
     private int wrong = 0;
+    private String sentence = "";
+
+    /** The sentence of the document that the next answers belong to; it is told with those that are wrong. */
+    void says(String words) {
+        sentence = "[" + words + "] ";
+    }
 
     void is(String call, long got, long want) {
         if (got != want) {
             wrong++;
-            System.out.println(call + " answered " + got + ", due is " + want);
+            System.out.println(sentence + call + " answered " + got + ", due is " + want);
         }
     }
 
     void isTrue(String what, boolean holds) {
         if (!holds) {
             wrong++;
-            System.out.println("does not hold: " + what);
+            System.out.println(sentence + "does not hold: " + what);
         }
     }
 
@@ -21,13 +27,18 @@ final class Check {
         int had = f.count(2);
         for (int i = 0; i < text.length(); i += 8) {
             String part = text.substring(i, Math.min(i + 8, text.length()));
-            long v = 0;
-            for (int k = 0; k < part.length(); k++) {
-                v = v << 8 | part.charAt(k);
-            }
-            had = f.type(v, part.length());
+            had = f.type(bytesOf(part), part.length());
         }
         return had;
+    }
+
+    /** A text of up to eight bytes as type() takes it. */
+    static long bytesOf(String part) {
+        long v = 0;
+        for (int k = 0; k < part.length(); k++) {
+            v = v << 8 | part.charAt(k);
+        }
+        return v;
     }
 
     /** Makes a text THE DRAFT, whatever it was, and tells it as a LAW. */
@@ -44,8 +55,10 @@ final class Check {
 
     /** Goes on to a DAY. */
     static void goTo(FlueRounds f, int day) {
-        while (f.count(1) < day) {
-            f.days(Math.min(50, day - f.count(1)));
+        for (int now = f.count(1); now < day; now = f.count(1)) {
+            if (f.days(Math.min(50, day - now)) < 0) {
+                return;
+            }
         }
     }
 

@@ -1,9 +1,14 @@
 import java.util.Random;
 
-/** Runs of 512 calls with numbers by a fixed seed, each answer compared with PlainModel's. */
+/**
+ * Runs of up to 512 calls, which is all that an object is promised for, with numbers by a fixed seed; each
+ * answer is compared with PlainModel's.
+ */
 public final class ModelTest {
     private static final int RUNS = 600;
     private static final int CALLS = 512;
+    // A ROUND and all its places.
+    private static final int MOST_IN_A_STEP = 8;
     private static final Check check = new Check();
     private static final String[] PARTS = {"g", "w", "c", "@", " ", "0", "1", "5", "20", "200", "500", "g3", "w12", "c40",
         "g100", "@10", "@60", "@150", "g200", "w1", "c7", "x", "@0"};
@@ -12,6 +17,7 @@ public final class ModelTest {
     private final int daysBound;
     private final FlueRounds real = new FlueRounds();
     private final PlainModel model = new PlainModel();
+    private int calls = 0;
 
     private ModelTest(int seed) {
         random = new Random(seed);
@@ -22,11 +28,16 @@ public final class ModelTest {
     public static void main(String[] args) {
         for (int seed = 0; seed < RUNS; seed++) {
             ModelTest run = new ModelTest(seed);
-            for (int i = 0; i < CALLS; i++) {
-                run.call("run " + seed + ", call " + i + ": ");
+            while (run.calls + MOST_IN_A_STEP <= CALLS) {
+                run.call("run " + seed + ", call " + run.calls + ": ");
             }
         }
         check.end("ModelTest");
+    }
+
+    private void same(String call, long got, long want) {
+        calls++;
+        check.is(call, got, want);
     }
 
     /** Mostly from least to most; at times a number beside them, or a very great one. */
@@ -63,15 +74,15 @@ public final class ModelTest {
             long v = random.nextLong();
             for (char c : part.toCharArray()) v = v << 8 | c;
             int n = random.nextInt(40) == 0 ? pick(1, 8) : part.length();
-            check.is(at + "type(" + v + ", " + n + ")", real.type(v, n), model.type(v, n));
+            same(at + "type(" + v + ", " + n + ")", real.type(v, n), model.type(v, n));
         } else if (dice < 9) {
             int answer = model.law();
-            check.is(at + "law()", real.law(), answer);
+            same(at + "law()", real.law(), answer);
             if (answer <= -100 && random.nextInt(3) > 0) {
-                check.is(at + "clear()", real.clear(), model.clear());
+                same(at + "clear()", real.clear(), model.clear());
             }
         } else {
-            check.is(at + "clear()", real.clear(), model.clear());
+            same(at + "clear()", real.clear(), model.clear());
         }
     }
 
@@ -79,14 +90,14 @@ public final class ModelTest {
         int dice = random.nextInt(4);
         if (dice == 0) {
             int n = pick(1, daysBound);
-            check.is(at + "days(" + n + ")", real.days(n), model.days(n));
+            same(at + "days(" + n + ")", real.days(n), model.days(n));
         } else if (dice == 1) {
             int what = pick(0, 6);
-            check.is(at + "count(" + what + ")", real.count(what), model.count(what));
+            same(at + "count(" + what + ")", real.count(what), model.count(what));
         } else {
             int fuel = pick(0, 2);
             int day = pick(0, 500);
-            check.is(at + "span(" + fuel + ", " + day + ")", real.span(fuel, day), model.span(fuel, day));
+            same(at + "span(" + fuel + ", " + day + ")", real.span(fuel, day), model.span(fuel, day));
         }
     }
 
@@ -97,24 +108,24 @@ public final class ModelTest {
                 makeFlue(at);
                 break;
             case 1:
-                check.is(at + "draught(" + flue + ")", real.draught(flue), model.draught(flue));
-                check.is(at + "trace()", real.trace(), model.trace());
+                same(at + "draught(" + flue + ")", real.draught(flue), model.draught(flue));
+                same(at + "trace()", real.trace(), model.trace());
                 break;
             case 2:
-                check.is(at + "due(" + flue + ")", real.due(flue), model.due(flue));
+                same(at + "due(" + flue + ")", real.due(flue), model.due(flue));
                 break;
             case 3:
-                check.is(at + "beyond()", real.beyond(), model.beyond());
+                same(at + "beyond()", real.beyond(), model.beyond());
                 break;
             case 4:
-                check.is(at + "sweep(" + flue + ")", real.sweep(flue), model.sweep(flue));
+                same(at + "sweep(" + flue + ")", real.sweep(flue), model.sweep(flue));
                 break;
             case 5:
-                check.is(at + "refuse(" + flue + ")", real.refuse(flue), model.refuse(flue));
+                same(at + "refuse(" + flue + ")", real.refuse(flue), model.refuse(flue));
                 break;
             default:
                 int what = pick(0, 7);
-                check.is(at + "about(" + flue + ", " + what + ")", real.about(flue, what), model.about(flue, what));
+                same(at + "about(" + flue + ", " + what + ")", real.about(flue, what), model.about(flue, what));
         }
     }
 
@@ -125,7 +136,7 @@ public final class ModelTest {
             a[5] = pick(0, 3);
             a[6] = pick(0, 3);
         }
-        check.is(at + "flue(" + java.util.Arrays.toString(a) + ")",
+        same(at + "flue(" + java.util.Arrays.toString(a) + ")",
             real.flue(a[0], a[1], a[2], a[3], a[4], a[5], a[6], a[7]), model.flue(a));
     }
 
@@ -134,17 +145,17 @@ public final class ModelTest {
         int day = someDay();
         int dice = random.nextInt(8);
         if (dice == 0) {
-            check.is(at + "fire(" + flue + ", " + day + ")", real.fire(flue, day), model.fire(flue, day));
+            same(at + "fire(" + flue + ", " + day + ")", real.fire(flue, day), model.fire(flue, day));
         } else if (dice < 3) {
             boolean well = random.nextInt(3) > 0;
-            check.is(at + "look(" + flue + ", " + day + ", " + well + ")",
+            same(at + "look(" + flue + ", " + day + ", " + well + ")",
                 real.look(flue, day, well), model.look(flue, day, well));
         } else if (dice < 5) {
-            check.is(at + "known(" + flue + ", " + day + ")", real.known(flue, day), model.known(flue, day));
+            same(at + "known(" + flue + ", " + day + ")", real.known(flue, day), model.known(flue, day));
         } else {
             int fire = pick(0, Math.max(0, model.count(5) - 1));
             int what = pick(0, 5);
-            check.is(at + "back(" + fire + ", " + what + ")", real.back(fire, what), model.back(fire, what));
+            same(at + "back(" + fire + ", " + what + ")", real.back(fire, what), model.back(fire, what));
         }
     }
 
@@ -153,19 +164,19 @@ public final class ModelTest {
         switch (random.nextInt(6)) {
             case 0:
                 int v = pick(1, 9);
-                check.is(at + "rate(" + v + ")", real.rate(v), model.rate(v));
+                same(at + "rate(" + v + ")", real.rate(v), model.rate(v));
                 break;
             case 1:
                 boolean is = random.nextInt(5) < 2;
-                check.is(at + "ill(" + hand + ", " + is + ")", real.ill(hand, is), model.ill(hand, is));
+                same(at + "ill(" + hand + ", " + is + ")", real.ill(hand, is), model.ill(hand, is));
                 break;
             case 2:
                 int what = pick(0, 1);
-                check.is(at + "fees(" + hand + ", " + what + ")", real.fees(hand, what), model.fees(hand, what));
+                same(at + "fees(" + hand + ", " + what + ")", real.fees(hand, what), model.fees(hand, what));
                 break;
             case 3:
                 int i = pick(0, 6);
-                check.is(at + "at(" + i + ")", real.at(i), model.at(i));
+                same(at + "at(" + i + ")", real.at(i), model.at(i));
                 break;
             default:
                 round(at, hand, pick(1, 6), random.nextBoolean() ? pick(0, 800) : pick(700, 800));
@@ -173,9 +184,9 @@ public final class ModelTest {
     }
 
     private void round(String at, int hand, int n, int day) {
-        check.is(at + "round(" + hand + ", " + n + ", " + day + ")", real.round(hand, n, day), model.round(hand, n, day));
+        same(at + "round(" + hand + ", " + n + ", " + day + ")", real.round(hand, n, day), model.round(hand, n, day));
         for (int i = 0; i <= 6; i++) {
-            check.is(at + "at(" + i + ")", real.at(i), model.at(i));
+            same(at + "at(" + i + ")", real.at(i), model.at(i));
         }
     }
 }
