@@ -5,8 +5,13 @@ import java.lang.reflect.Method;
 import java.lang.reflect.Modifier;
 import java.nio.file.Files;
 import java.nio.file.Path;
+import java.util.ArrayList;
+import java.util.List;
 import java.util.Set;
 import java.util.TreeSet;
+import java.util.regex.Matcher;
+import java.util.regex.Pattern;
+import java.util.stream.Stream;
 
 /** The public face of the document, and what of LANGUAGE.md can be seen in the class and its text. */
 public final class FaceTest {
@@ -18,7 +23,10 @@ public final class FaceTest {
         theMethods();
         theFields();
         theNestedClasses(publicNames());
-        theText(Files.readString(SOURCE));
+        String code = codeOf(Files.readString(SOURCE));
+        theText(code);
+        theLibrary(code);
+        theLengths(code);
         check.end("FaceTest");
     }
 
@@ -30,7 +38,7 @@ public final class FaceTest {
             && Modifier.isPublic(made[0].getModifiers()) && made[0].getParameterCount() == 0);
     }
 
-    private static Set<String> publicNames() {
+    static Set<String> publicNames() {
         Set<String> names = new TreeSet<>();
         for (Method m : FlueRounds.class.getDeclaredMethods()) {
             if (Modifier.isPublic(m.getModifiers())) {
@@ -97,8 +105,11 @@ public final class FaceTest {
         }
     }
 
-    private static void theText(String source) {
-        String code = source.replaceAll("(?s)/\\*.*?\\*/", "").replaceAll("//[^\n]*", "");
+    private static String codeOf(String source) {
+        return source.replaceAll("(?s)/\\*.*?\\*/", "").replaceAll("//[^\n]*", "");
+    }
+
+    private static void theText(String code) {
         String[] barred = {"\\bthrow\\b", "\\btry\\b", "\\bcatch\\b", "\\bsynchronized\\b", "\\bassert\\b", "\\bimport\\b",
             "\\bpackage\\b", "->", "::", "\\bstatic\\s*\\{", "\"", "Exact\\b", "\\bThread\\b", "\\bSystem\\b",
             "\\bdouble\\b", "\\bfloat\\b", "\\bInteger\\.MAX"};
@@ -108,6 +119,35 @@ public final class FaceTest {
         // Calls make nothing: what is made is made with the object, in final fields.
         for (String line : code.split("\n")) {
             check.isTrue("made with the object:" + line, !line.matches(".*\\bnew\\b.*") || line.matches(" +final .*|.* private final .*"));
+        }
+    }
+
+    private static void theLibrary(String code) {
+        Set<String> own = new TreeSet<>(Set.of("FlueRounds"));
+        for (Class<?> c : FlueRounds.class.getDeclaredClasses()) {
+            own.add(c.getSimpleName());
+        }
+        Matcher used = Pattern.compile("\\b([A-Z]\\w*[a-z]\\w*)\\b(?:\\.(\\w+))?").matcher(code);
+        while (used.find()) {
+            boolean isMath = used.group(1).equals("Math") && Set.of("abs", "max", "min").contains(String.valueOf(used.group(2)));
+            check.isTrue("rule 4: " + used.group(), isMath || own.contains(used.group(1)));
+        }
+    }
+
+    /** Blocks of methods begin and end at the same indent, those of classes inside one step farther in. */
+    private static void theLengths(String code) {
+        Matcher method = Pattern.compile("(?ms)^( {4}| {8})(?=\\w)[^\n;=]*\\) \\{\n(.*?)^\\1\\}").matcher(code);
+        int found = 0;
+        while (method.find()) {
+            found++;
+            check.isTrue("rule 11: some sixty lines: " + method.group(), method.group().split("\n").length <= 60);
+        }
+        check.isTrue("rule 11: methods were looked at", found >= FlueRounds.class.getDeclaredMethods().length);
+        List<Class<?>> classes = new ArrayList<>(List.of(FlueRounds.class.getDeclaredClasses()));
+        classes.add(FlueRounds.class);
+        for (Class<?> c : classes) {
+            long fields = Stream.of(c.getDeclaredFields()).filter(f -> !Modifier.isStatic(f.getModifiers())).count();
+            check.isTrue("rule 11: some twenty fields: " + c, fields <= 20);
         }
     }
 }
